@@ -14,9 +14,18 @@ final class Oracle {
 
     /** The row xor the stream from block 1 on: seals what is open, opens what is sealed. */
     static byte[] xorStream(int[] key, int[] nonce, byte[] row) {
+        return xorFrom(1, key, nonce, row);
+    }
+
+    /** Block 0 of the stream, which the tag is made with. */
+    static byte[] blockZero(int[] key, int[] nonce) {
+        return xorFrom(0, key, nonce, new byte[64]);
+    }
+
+    private static byte[] xorFrom(int block, int[] key, int[] nonce, byte[] row) {
         try {
             Cipher cipher = Cipher.getInstance("ChaCha20");
-            ChaCha20ParameterSpec place = new ChaCha20ParameterSpec(bytesOf(nonce), 1);
+            ChaCha20ParameterSpec place = new ChaCha20ParameterSpec(bytesOf(nonce), block);
             cipher.init(Cipher.ENCRYPT_MODE, new SecretKeySpec(bytesOf(key), "ChaCha20"), place);
             return cipher.doFinal(row);
         } catch (GeneralSecurityException e) {
