@@ -313,7 +313,11 @@ public final class AeadBox {
         }
 
         void close() {
-            reduceHash();
+            if (reachesModulus()) {
+                // Below 2 to the 130, 5 more are the modulus less; the tag leaves out what is above.
+                // The carries keep the hash under twice the modulus, so once is enough.
+                addSmall(5);
+            }
             int carry = 0;
             for (int i = 0; i < TAG_BYTES; i++) {
                 carry += hash[i] + addend[i];
@@ -376,21 +380,13 @@ public final class AeadBox {
             }
         }
 
-        /** The hash is less than twice the modulus: it is taken away once, or not at all. */
-        private void reduceHash() {
+        private boolean reachesModulus() {
+            // The modulus is 2 to the 130 less 5: it is reached if 5 more make 2 to the 130.
             int carry = 5;
-            for (int i = 0; i < LIMBS; i++) {
-                carry += hash[i];
-                products[i] = carry & 255;
-                carry >>>= 8;
+            for (int i = 0; i < CHUNK; i++) {
+                carry = (carry + hash[i]) >>> 8;
             }
-            // With 5 more at 2 to the 130 or above: then it was no less than the modulus.
-            if (products[LIMBS - 1] >= 4) {
-                for (int i = 0; i < LIMBS; i++) {
-                    hash[i] = products[i];
-                }
-                hash[LIMBS - 1] &= 3;
-            }
+            return carry + hash[CHUNK] >= 4;
         }
     }
 }

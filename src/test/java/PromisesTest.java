@@ -12,6 +12,8 @@ public final class PromisesTest {
         test.nonceWords();
         test.begin();
         test.beginAnew();
+        test.beginAfterPartOfARow();
+        test.expectedIsZeroAtFirst();
         test.aad();
         test.aadLimit();
         test.data();
@@ -21,6 +23,7 @@ public final class PromisesTest {
         test.verify();
         test.verifyEachBit();
         test.tag();
+        test.tagsOfManyLengths();
         test.outWhenSealing();
         test.outWhenOpening();
         test.lengths();
@@ -157,7 +160,25 @@ public final class PromisesTest {
         box.finish();
         due("4: out(1) of the run before", box.out(1), -1);
         dueTag("4", box, Oracle.tagOf(new int[8], new int[3], new byte[0], new byte[] {9}));
-        expectedIsZeroAtFirst();
+    }
+
+    private void beginAfterPartOfARow() {
+        byte[] due = Oracle.tagOf(new int[8], new int[3], new byte[] {1, 2}, new byte[] {3, 4});
+        for (int data = 0; data <= 1; data++) {
+            AeadBox box = Boxes.begun(4, Boxes.TO_SEAL);
+            box.aad(200);
+            if (data == 1) {
+                box.data(201);
+            }
+            box.reset();
+            box.begin(Boxes.TO_SEAL);
+            box.aad(1);
+            box.aad(2);
+            box.data(3);
+            box.data(4);
+            box.finish();
+            dueTag("4", box, due);
+        }
     }
 
     /** A tag with a byte 0 is looked for, so that leaving that byte unset must be right. */
@@ -232,9 +253,9 @@ public final class PromisesTest {
         for (int i = 0; i < plain.length; i++) {
             due("6: data() " + i + " when sealing", sealing.data(plain[i] & 255), sealed[i] & 255);
             due("6: data() " + i + " when opening", opening.data(sealed[i] & 255), 0);
-            due("6: phase() when sealing", sealing.phase(), Boxes.DATA);
-            due("6: phase() when opening", opening.phase(), Boxes.DATA);
         }
+        due("6: phase() when sealing", sealing.phase(), Boxes.DATA);
+        due("6: phase() when opening", opening.phase(), Boxes.DATA);
     }
 
     private void dataRefused() {
@@ -344,27 +365,33 @@ public final class PromisesTest {
         }
         box.reset();
         due("10: tag(0) when IDLE", box.tag(0), -1);
-        tagsOfAllLengths();
     }
 
-    private void tagsOfAllLengths() {
+    private void tagsOfManyLengths() {
         for (int added = 0; added <= 33; added++) {
             for (int data = 0; data <= 33; data++) {
-                AeadBox box = Boxes.begun(40, Boxes.TO_SEAL);
-                byte[] addedRow = new byte[added];
-                byte[] dataRow = new byte[data];
-                for (int i = 0; i < added; i++) {
-                    addedRow[i] = (byte) (255 - i);
-                    box.aad(255 - i);
-                }
-                for (int i = 0; i < data; i++) {
-                    dataRow[i] = (byte) (128 + i);
-                    box.data(128 + i);
-                }
-                box.finish();
-                dueTag("10, " + added + " and " + data, box, Oracle.tagOf(new int[8], new int[3], addedRow, dataRow));
+                tagOfLengths(added, data);
             }
         }
+        tagOfLengths(0, 400);
+        tagOfLengths(257, 1);
+        tagOfLengths(480, 0);
+    }
+
+    private void tagOfLengths(int added, int data) {
+        AeadBox box = Boxes.begun(400, Boxes.TO_SEAL);
+        byte[] addedRow = new byte[added];
+        byte[] dataRow = new byte[data];
+        for (int i = 0; i < added; i++) {
+            addedRow[i] = (byte) (255 - i);
+            box.aad(addedRow[i] & 255);
+        }
+        for (int i = 0; i < data; i++) {
+            dataRow[i] = (byte) (128 + i);
+            box.data(dataRow[i] & 255);
+        }
+        box.finish();
+        dueTag("10, " + added + " and " + data, box, Oracle.tagOf(new int[8], new int[3], addedRow, dataRow));
     }
 
     private void outWhenSealing() {
@@ -373,7 +400,7 @@ public final class PromisesTest {
             due("11: out(0) told in state " + k, boxes[k].out(0) != -1, k == Boxes.DONE || k == Boxes.OPENED);
         }
         AeadBox box = Boxes.begun(400, Boxes.TO_SEAL);
-        byte[] sealed = Oracle.xorStream(new int[8], new int[3], new byte[200]);
+        byte[] sealed = Oracle.xorStream(new int[8], new int[3], new byte[150]);
         for (int i = 0; i < sealed.length; i++) {
             box.data(0);
             due("11: out(0) when DATA", box.out(0), -1);
@@ -382,12 +409,14 @@ public final class PromisesTest {
         for (int i = 0; i < sealed.length; i++) {
             due("11: out(" + i + ")", box.out(i), sealed[i] & 255);
         }
-        for (int i : new int[] {-1, 200, 399, 400, Integer.MIN_VALUE, Integer.MAX_VALUE}) {
+        for (int i : new int[] {-1, 150, 399, 400, Integer.MIN_VALUE, Integer.MAX_VALUE}) {
             due("11: out(" + i + ")", box.out(i), -1);
         }
         box.reset();
         due("11: out(0) when IDLE", box.out(0), -1);
-        due("11: out(0) with no data", Boxes.begun(4, Boxes.TO_SEAL).out(0), -1);
+        AeadBox empty = Boxes.begun(4, Boxes.TO_SEAL);
+        empty.finish();
+        due("11: out(0) with no data", empty.out(0), -1);
     }
 
     private void outWhenOpening() {

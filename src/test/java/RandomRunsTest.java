@@ -154,6 +154,7 @@ public final class RandomRunsTest {
     private void reset() {
         box.reset();
         model.reset();
+        calls++;
         due("phase() after reset()", box.phase(), model.phase());
     }
 
