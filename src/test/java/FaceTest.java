@@ -3,10 +3,11 @@ import java.lang.reflect.Field;
 import java.lang.reflect.Member;
 import java.lang.reflect.Method;
 import java.lang.reflect.Modifier;
+import java.util.List;
 import java.util.TreeSet;
 
 /** The public face: every constant, constructor and method of the document, and no other. */
-public final class FaceTest {
+public final class FaceTest extends Tests {
     private static final String[] FACE = {
         "public static final int AeadBox.NONE",
         "public AeadBox(int)",
@@ -26,19 +27,13 @@ public final class FaceTest {
         "public void AeadBox.reset()",
     };
 
-    private final Check check = new Check();
     private final TreeSet<String> seen = new TreeSet<>();
-    private final TreeSet<String> publicNames = new TreeSet<>();
 
-    public static void main(String[] args) {
-        FaceTest test = new FaceTest();
-        test.collect();
-        test.compare();
-        test.check.due("NONE", AeadBox.NONE, -1);
-        test.check.end();
+    public static void main(String[] args) throws IllegalAccessException {
+        new FaceTest().runAll();
     }
 
-    private void collect() {
+    FaceTest() {
         for (Field field : AeadBox.class.getDeclaredFields()) {
             note(field, field.toString());
         }
@@ -47,9 +42,6 @@ public final class FaceTest {
         }
         for (Method method : AeadBox.class.getDeclaredMethods()) {
             note(method, method.toString());
-            if (Modifier.isPublic(method.getModifiers())) {
-                publicNames.add(method.getName());
-            }
         }
     }
 
@@ -59,18 +51,37 @@ public final class FaceTest {
         }
     }
 
-    private void compare() {
+    void everyMemberOfTheDocument() {
         for (String member : FACE) {
-            check.due("the class has " + member, seen.remove(member), true);
+            due("the class has " + member, seen.contains(member), true);
         }
-        for (String member : seen) {
-            check.due("the class has " + member, true, false);
+    }
+
+    void noOtherMemberThatIsNotPrivate() {
+        TreeSet<String> others = new TreeSet<>(seen);
+        others.removeAll(List.of(FACE));
+        for (String member : others) {
+            due("the class has " + member, true, false);
         }
+    }
+
+    void noPrivateMethodBearsThePublicNameOfAnother() {
+        TreeSet<String> open = new TreeSet<>();
+        TreeSet<String> hidden = new TreeSet<>();
         for (Method method : AeadBox.class.getDeclaredMethods()) {
-            boolean hidden = Modifier.isPrivate(method.getModifiers());
-            check.due("a private " + method.getName(), hidden && publicNames.contains(method.getName()), false);
+            (Modifier.isPublic(method.getModifiers()) ? open : hidden).add(method.getName());
         }
+        hidden.retainAll(open);
+        due("there are such: " + hidden, hidden.isEmpty(), true);
+    }
+
+    void classIsPublicAndFinal() {
         int modifiers = AeadBox.class.getModifiers();
-        check.due("the class is public and final", Modifier.isPublic(modifiers) && Modifier.isFinal(modifiers), true);
+        due("public", Modifier.isPublic(modifiers), true);
+        due("final", Modifier.isFinal(modifiers), true);
+    }
+
+    void noneIsOneBelowZero() {
+        due("NONE", AeadBox.NONE, -1);
     }
 }

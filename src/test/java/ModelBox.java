@@ -1,4 +1,5 @@
 import java.io.ByteArrayOutputStream;
+import java.util.Arrays;
 
 /** The document's promises once more, written for plainness over the JDK's own cipher. */
 final class ModelBox {
@@ -85,7 +86,7 @@ final class ModelBox {
     }
 
     boolean verify() {
-        if (phase != 3 || !opening || !java.util.Arrays.equals(expected, tag)) {
+        if (phase != 3 || !opening || !Arrays.equals(expected, tag)) {
             return false;
         }
         phase = 4;

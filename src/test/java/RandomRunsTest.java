@@ -7,20 +7,12 @@ public final class RandomRunsTest {
     private static final int[] CAPS = {-1, 0, 1, 15, 16, 17, 63, 64, 65, 128, 200, 399, 400, 401, 1000};
     private static final int[] ODD_NUMBERS = {-1, 256, 257, 16, 400, Integer.MIN_VALUE, Integer.MAX_VALUE};
 
-    private final Check check;
     private final Random random;
-    private final int run;
-    private final AeadBox box;
-    private final ModelBox model;
-    private int calls = 0;
+    private final Twin twin;
 
     private RandomRunsTest(Check check, int run) {
-        this.check = check;
-        this.run = run;
         random = new Random(run);
-        int cap = CAPS[random.nextInt(CAPS.length)];
-        box = new AeadBox(cap);
-        model = new ModelBox(cap);
+        twin = new Twin(check, "run " + run, CAPS[random.nextInt(CAPS.length)]);
     }
 
     public static void main(String[] args) {
@@ -37,17 +29,17 @@ public final class RandomRunsTest {
     }
 
     private void wander() {
-        while (calls < CALLS - 20) {
+        while (twin.calls() < CALLS - 20) {
             int kind = random.nextInt(40);
             if (kind < 15) {
                 anyCall(kind);
-            } else if (model.phase() == 0) {
+            } else if (twin.model.phase() == 0) {
                 anyCall(kind < 30 ? kind % 2 : 2);
-            } else if (model.phase() == 1) {
+            } else if (twin.model.phase() == 1) {
                 anyCall(kind < 37 ? 3 : 4);
-            } else if (model.phase() == 2) {
+            } else if (twin.model.phase() == 2) {
                 anyCall(kind < 39 ? 4 : 5);
-            } else if (model.phase() == 3 && kind < 20) {
+            } else if (twin.model.phase() == 3 && kind < 20) {
                 guessTag();
             } else {
                 anyCall(8 + kind % 2);
@@ -60,20 +52,20 @@ public final class RandomRunsTest {
         for (int i = 0; i < 11; i++) {
             anyCall(i < 8 ? 0 : 1);
         }
-        begin(random.nextInt(2));
+        twin.begin(random.nextInt(2));
         int added = random.nextInt(100);
         for (int i = 0; i < added; i++) {
             strayCall();
-            aad(random.nextInt(256));
+            twin.aad(random.nextInt(256));
         }
         int data = random.nextInt(300);
-        for (int i = 0; i < data && calls < CALLS - 60; i++) {
+        for (int i = 0; i < data && twin.calls() < CALLS - 60; i++) {
             strayCall();
-            data(random.nextInt(256));
+            twin.data(random.nextInt(256));
         }
-        due("finish()", box.finish(), model.finish());
+        twin.finish();
         guessTag();
-        while (calls < CALLS) {
+        while (twin.calls() < CALLS) {
             anyCall(8 + random.nextInt(6));
         }
     }
@@ -87,27 +79,27 @@ public final class RandomRunsTest {
     private void guessTag() {
         int spoilt = random.nextInt(2) == 0 ? random.nextInt(16) : -1;
         for (int i = 0; i < 16; i++) {
-            expectTag(i, model.dueTag(i) ^ (i == spoilt ? 1 << random.nextInt(8) : 0));
+            twin.expectTag(i, twin.model.dueTag(i) ^ (i == spoilt ? 1 << random.nextInt(8) : 0));
         }
-        due("verify()", box.verify(), model.verify());
+        twin.verify();
     }
 
     private void anyCall(int kind) {
         switch (kind) {
-            case 0 -> setKeyWord(number(8), random.nextInt());
-            case 1 -> setNonceWord(number(3), random.nextInt());
-            case 2 -> begin(number(2));
-            case 3 -> aad(number(256));
-            case 4 -> data(number(256));
-            case 5 -> due("finish()", box.finish(), model.finish());
-            case 6 -> expectTag(number(16), number(256));
-            case 7 -> due("verify()", box.verify(), model.verify());
-            case 8 -> tag(number(16));
-            case 9 -> out(number(Math.max(1, model.length() + 1)));
-            case 10 -> due("length()", box.length(), model.length());
-            case 11 -> due("added()", box.added(), model.added());
-            case 12 -> due("phase()", box.phase(), model.phase());
-            default -> reset();
+            case 0 -> twin.setKeyWord(number(8), random.nextInt());
+            case 1 -> twin.setNonceWord(number(3), random.nextInt());
+            case 2 -> twin.begin(number(2));
+            case 3 -> twin.aad(number(256));
+            case 4 -> twin.data(number(256));
+            case 5 -> twin.finish();
+            case 6 -> twin.expectTag(number(16), number(256));
+            case 7 -> twin.verify();
+            case 8 -> twin.tag(number(16));
+            case 9 -> twin.out(number(Math.max(1, twin.model.length() + 1)));
+            case 10 -> twin.length();
+            case 11 -> twin.added();
+            case 12 -> twin.phase();
+            default -> twin.reset();
         }
     }
 
@@ -117,53 +109,5 @@ public final class RandomRunsTest {
             return random.nextInt(bound);
         }
         return random.nextBoolean() ? bound : ODD_NUMBERS[random.nextInt(ODD_NUMBERS.length)];
-    }
-
-    private void setKeyWord(int i, int w) {
-        due("setKeyWord(" + i + ", " + w + ")", box.setKeyWord(i, w), model.setKeyWord(i, w));
-    }
-
-    private void setNonceWord(int i, int w) {
-        due("setNonceWord(" + i + ", " + w + ")", box.setNonceWord(i, w), model.setNonceWord(i, w));
-    }
-
-    private void begin(int dir) {
-        due("begin(" + dir + ")", box.begin(dir), model.begin(dir));
-    }
-
-    private void aad(int b) {
-        due("aad(" + b + ")", box.aad(b), model.aad(b));
-    }
-
-    private void data(int b) {
-        due("data(" + b + ")", box.data(b), model.data(b));
-    }
-
-    private void expectTag(int i, int b) {
-        due("expectTag(" + i + ", " + b + ")", box.expectTag(i, b), model.expectTag(i, b));
-    }
-
-    private void tag(int i) {
-        due("tag(" + i + ")", box.tag(i), model.tag(i));
-    }
-
-    private void out(int i) {
-        due("out(" + i + ")", box.out(i), model.out(i));
-    }
-
-    private void reset() {
-        box.reset();
-        model.reset();
-        calls++;
-        due("phase() after reset()", box.phase(), model.phase());
-    }
-
-    private void due(String call, boolean got, boolean want) {
-        due(call, got ? 1 : 0, want ? 1 : 0);
-    }
-
-    private void due(String call, int got, int want) {
-        calls++;
-        check.due("run " + run + ", call " + calls + ": " + call, got, want);
     }
 }
