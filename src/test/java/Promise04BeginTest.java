@@ -58,10 +58,7 @@ public final class Promise04BeginTest extends Tests {
         for (State state : State.all()) {
             AeadBox box = state.makeBox();
             box.reset();
-            box.begin(Boxes.TO_SEAL);
-            Boxes.putIn(box, added, plain);
-            dueOut(box, Boxes.crossed(plain));
-            dueTag(box, Boxes.tagOfPlain(added, plain));
+            dueSeals(box, added, plain);
         }
     }
 
@@ -91,10 +88,7 @@ public final class Promise04BeginTest extends Tests {
         dueOut(box, plain);
         box.reset();
         Boxes.setWords(box, Boxes.KEY, Boxes.NONCE);
-        due("begin(0)", box.begin(Boxes.TO_SEAL), true);
-        Boxes.putIn(box, added, sealed);
-        dueOut(box, Boxes.crossed(sealed));
-        dueTag(box, Boxes.tagOfPlain(added, sealed));
+        dueSeals(box, added, sealed);
     }
 
     void theTagExpectedBeforeCountsNoMore() {

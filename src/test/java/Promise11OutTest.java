@@ -64,9 +64,7 @@ public final class Promise11OutTest extends Tests {
     void noneOfTheRowBefore() {
         AeadBox box = opened(ROW);
         box.reset();
-        box.begin(Boxes.TO_SEAL);
-        Boxes.putIn(box, Boxes.NO_ROW, new byte[] {77});
-        dueOut(box, Boxes.crossed(new byte[] {77}));
+        dueSeals(box, Boxes.NO_ROW, new byte[] {77});
     }
 
     void untoldWhenIdle() {

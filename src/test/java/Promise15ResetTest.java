@@ -33,10 +33,7 @@ public final class Promise15ResetTest extends Tests {
         for (State state : State.all()) {
             AeadBox box = state.makeBox();
             box.reset();
-            box.begin(Boxes.TO_SEAL);
-            Boxes.putIn(box, added, plain);
-            dueOut(box, Boxes.crossed(plain));
-            dueTag(box, Boxes.tagOfPlain(added, plain));
+            dueSeals(box, added, plain);
         }
     }
 
@@ -46,10 +43,7 @@ public final class Promise15ResetTest extends Tests {
             AeadBox box = Boxes.begun(200, Boxes.TO_SEAL);
             Boxes.giveAll(box, Boxes.row(length, 6));
             box.reset();
-            box.begin(Boxes.TO_SEAL);
-            byte[] plain = Boxes.row(130, 7);
-            Boxes.putIn(box, Boxes.NO_ROW, plain);
-            dueOut(box, Boxes.crossed(plain));
+            dueSeals(box, Boxes.NO_ROW, Boxes.row(130, 7));
         }
     }
 

@@ -64,6 +64,14 @@ abstract class Tests {
         due("out(" + row.length + ")", box.out(row.length), -1);
     }
 
+    /** A box that is IDLE and has the shared key and nonce seals these rows, with nothing left from before. */
+    final void dueSeals(AeadBox box, byte[] added, byte[] plain) {
+        due("begin(0)", box.begin(Boxes.TO_SEAL), true);
+        Boxes.putIn(box, added, plain);
+        dueOut(box, Boxes.crossed(plain));
+        dueTag(box, Boxes.tagOfPlain(added, plain));
+    }
+
     final void dueNothingTold(String when, AeadBox box) {
         for (int i = -1; i <= 16; i++) {
             due("tag(" + i + ") " + when, box.tag(i), -1);
