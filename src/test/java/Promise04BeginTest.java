@@ -100,40 +100,24 @@ public final class Promise04BeginTest extends Tests {
         dueStanding("after verify()", box, Boxes.DONE, 2, 3);
     }
 
-    /** A tag with a byte 0 is looked for, so that leaving that byte alone must be right. */
-    void theTagExpectedIsZeroAfterOnes() {
-        int found = 0;
-        for (int b = 0; b < 256; b++) {
-            byte[] sealed = {(byte) b};
-            byte[] tag = Boxes.tagOfSealed(Boxes.NO_ROW, sealed);
-            AeadBox box = expectingOnes();
-            box.reset();
-            box.begin(Boxes.TO_OPEN);
-            Boxes.putIn(box, Boxes.NO_ROW, sealed);
-            found += expectAllButZeros(box, tag);
-            due("verify() with the 0s left alone, data " + b, box.verify(), true);
-        }
-        due("some tag had a byte 0", found > 0, true);
-    }
-
-    private static AeadBox expectingOnes() {
-        AeadBox box = Boxes.begun(1, Boxes.TO_OPEN);
+    /** Where the tag is 0, nothing need be expected for it. */
+    void theTagExpectedIsZeroAtFirst() {
+        AeadBox box = TagRow.ofTagZero().begun(Boxes.TO_OPEN);
         box.finish();
-        for (int i = 0; i < Oracle.TAG_BYTES; i++) {
-            box.expectTag(i, 255);
-        }
-        return box;
+        due("verify()", box.verify(), true);
+        dueStanding("after verify()", box, Boxes.OPENED, 16, 0);
     }
 
-    private static int expectAllButZeros(AeadBox box, byte[] tag) {
-        int zeros = 0;
-        for (int i = 0; i < tag.length; i++) {
-            if (tag[i] == 0) {
-                zeros++;
-            } else {
-                box.expectTag(i, tag[i] & 255);
-            }
+    void theTagExpectedIsZeroAgainInEachByte() {
+        TagRow row = TagRow.ofTagZero();
+        for (int i = 0; i < Oracle.TAG_BYTES; i++) {
+            AeadBox box = Boxes.begun(0, Boxes.TO_OPEN);
+            box.finish();
+            due("expectTag(" + i + ", 255)", box.expectTag(i, 255), true);
+            box.reset();
+            row.beginAgain(box, Boxes.TO_OPEN);
+            box.finish();
+            due("verify() with byte " + i + " expected before", box.verify(), true);
         }
-        return zeros;
     }
 }

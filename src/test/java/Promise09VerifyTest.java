@@ -117,6 +117,23 @@ public final class Promise09VerifyTest extends Tests {
         dueFalse(State.going(Boxes.TO_SEAL, State.in(Boxes.DONE)), "verify()", AeadBox::verify);
     }
 
+    /** Where the tag is 0, the tag expected is the tag, but there is nothing to open. */
+    void refusedWhenSealingATagOfZeros() {
+        AeadBox box = TagRow.ofTagZero().begun(Boxes.TO_SEAL);
+        box.finish();
+        due("verify()", box.verify(), false);
+        dueStanding("after verify()", box, Boxes.DONE, 16, 0);
+    }
+
+    void refusedBeforeATagOfZerosIsFinished() {
+        AeadBox box = TagRow.ofTagZero().begun(Boxes.TO_OPEN);
+        due("verify()", box.verify(), false);
+        dueStanding("after verify()", box, Boxes.ADDING, 16, 0);
+        box.finish();
+        due("verify() when DONE", box.verify(), true);
+        due("verify() when OPENED", box.verify(), false);
+    }
+
     void refusedWhenOpened() {
         dueFalse(State.in(Boxes.OPENED), "verify()", AeadBox::verify);
     }

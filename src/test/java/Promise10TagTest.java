@@ -20,6 +20,12 @@ public final class Promise10TagTest extends Tests {
         dueStanding("after it", box, Boxes.DONE, 18, 35);
     }
 
+    void bytesOfZeroAreTold() {
+        AeadBox box = TagRow.ofTagZero().begun(Boxes.TO_SEAL);
+        box.finish();
+        dueTag(box, new byte[16]);
+    }
+
     void indexJustBelowRange() {
         dueRefused(-1, State.all(), "tag(-1)", box -> box.tag(-1));
     }
