@@ -53,6 +53,7 @@ public final class TagEdgesTest extends Tests {
         due("the solving is right where " + aim, Arrays.equals(due, row.tag), true);
         AeadBox sealing = row.begun(Boxes.TO_SEAL);
         sealing.finish();
+        due("finish() again where " + aim, sealing.finish(), false);
         dueTag(sealing, row.tag);
         AeadBox opening = row.begun(Boxes.TO_OPEN);
         opening.finish();
