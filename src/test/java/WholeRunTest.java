@@ -29,6 +29,18 @@ public final class WholeRunTest extends Tests {
         }
     }
 
+    /** 11 words, begin(), 241 bytes, finish(), 16 of the tag, verify(), and the 241 bytes told. */
+    void openAndTellAllOf241BytesIn512Calls() {
+        byte[] sealed = Boxes.row((CALLS - 30) / 2, 93);
+        byte[] plain = Boxes.crossed(sealed);
+        AeadBox box = Boxes.done(Boxes.TO_OPEN, Boxes.NO_ROW, sealed);
+        Boxes.expect(box, Boxes.tagOfSealed(Boxes.NO_ROW, sealed));
+        due("verify()", box.verify(), true);
+        for (int i = 0; i < 241; i++) {
+            due("out(" + i + ")", box.out(i), plain[i] & 255);
+        }
+    }
+
     /** 11 words, begin(), 483 bytes added, finish() and 16 bytes of the tag. */
     void addIn512Calls() {
         byte[] added = Boxes.row(CALLS - 29, 92);
